@@ -7,6 +7,7 @@ public final class NumbersTest {
         promise06AddRunsAndBays();
         promise07RemoveChecks();
         promise07RemoveAtSea();
+        promise07RemoveKeepsKindAtSea();
         promise07RemoveInHarbour();
         promise08AddRangeChecks();
         promise08AddRangeNumberByNumber();
@@ -15,6 +16,7 @@ public final class NumbersTest {
         promise10CombineChecks();
         promise10CombineNumbers();
         promise10CombineBoats();
+        promise10CombineKeepsTheRest();
         Check.finish();
     }
 
@@ -109,6 +111,14 @@ public final class NumbersTest {
         Check.due("two bays, two boats", y.set(0, 1), 2);
         Check.due("two bays, two runs", y.set(0, 6), 2);
         Check.due("two rows", y.boat(0, 0, 0) + y.boat(0, 1, 0), 0);
+        BoatSets z = Check.withSet(0);
+        z.add(0, 256);
+        z.add(0, 255);
+        Check.due("the upper bay first", z.set(0, 6), 2);
+        z.add(0, 254);
+        Check.due("joined in its bay", z.set(0, 6), 2);
+        z.remove(0, 255);
+        Check.due("the end of the bay goes", z.set(0, 6), 2);
     }
 
     private static void promise07RemoveChecks() {
@@ -145,6 +155,19 @@ public final class NumbersTest {
         Check.due("seven runs", x.boat(0, 0, 2), 7);
         Check.due("now a split is possible", x.remove(0, 9), 27);
         Check.due("runs at sea", x.boat(0, 0, 0), 2);
+    }
+
+    private static void promise07RemoveKeepsKindAtSea() {
+        BoatSets x = Check.withSet(3);
+        x.addRange(0, 0, 1);
+        Check.due("runs", x.boat(0, 0, 0), 2);
+        x.sail(0);
+        Check.due("one is left", x.remove(0, 0), 1);
+        Check.due("runs still", x.boat(0, 0, 0), 2);
+        Check.due("the last one", x.remove(0, 1), 0);
+        Check.due("no boat", x.boat(0, 0, 0), -5);
+        Check.due("a new boat is a row", x.add(0, 1), 0);
+        Check.due("two units", x.set(0, 2), 2);
     }
 
     private static void promise07RemoveInHarbour() {
@@ -315,6 +338,20 @@ public final class NumbersTest {
         x.addRange(0, 2040, 2047);
         Check.due("with itself", x.combine(3, 0, 0, 0), 0);
         Check.due("no boats", x.set(0, 1), 0);
+    }
+
+    private static void promise10CombineKeepsTheRest() {
+        BoatSets x = Check.withSet(50);
+        x.newSet(70);
+        x.addRange(1, 0, 9);
+        x.add(0, 5);
+        x.sail(0);
+        x.tollToDock(0);
+        Check.due("into set 1", x.combine(0, 1, 0, 0), 1);
+        Check.due("its own purse", x.set(1, 3), 67);
+        Check.due("its own tolls", x.set(1, 5), 3);
+        Check.due("in the harbour", x.set(1, 4), 0);
+        Check.due("set 0 at sea", x.set(0, 4), 1);
     }
 
     private static void promise10CombineBoats() {

@@ -3,10 +3,13 @@ public final class SetsTest {
     public static void main(String[] args) {
         promise01NewObject();
         promise02NewSet();
+        promise02NewSetHasNothingOfTheOneBefore();
         promise03Pay();
         promise04Sail();
         promise05DockPaysAndOrders();
         promise05DockPassesOver();
+        promise05DockBySavingsAlone();
+        promise05DockEightBoats();
         promise05DockTies();
         promise05DockAgain();
         Check.finish();
@@ -42,31 +45,43 @@ public final class SetsTest {
         Check.due("purse 5", x.set(5, 3), 9999);
         Check.due("in the harbour", x.set(5, 4), 0);
         Check.due("without numbers", x.set(5, 0), 0);
-        Check.due("an act", x.undo(), 3);
+        Check.due("an act with six sets", x.add(5, 1), 0);
+        Check.due("counted in all six", x.count(6) + x.count(2) + x.count(5), 4);
+        Check.due("the most of six", x.most(), 1);
+        Check.due("undone", x.undo(), 3);
+        Check.due("newSet is an act", x.undo(), 2);
         Check.due("one set less", x.count(0), 5);
         Check.due("the same number again", x.newSet(7), 5);
     }
 
-    private static void newSetIsEmptyAfterUndo() {
+    private static void promise02NewSetHasNothingOfTheOneBefore() {
         BoatSets x = new BoatSets();
+        x.keep();
         x.newSet(100);
         x.addRange(0, 0, 99);
+        x.addRange(0, 300, 301);
         x.sail(0);
-        x.undo();
-        x.undo();
-        x.undo();
+        Check.due("an empty harbour", x.restore(), 0);
+        for (int what = 0; what < 9; what++) {
+            Check.due("nothing is counted " + what, x.count(what), 0);
+        }
+        Check.due("no most", x.most(), -5);
+        Check.due("no place", x.ofAll(0), -5);
         x.newSet(3);
         Check.due("no numbers left over", x.set(0, 0), 0);
         Check.due("no boats left over", x.set(0, 1), 0);
         Check.due("no tolls left over", x.set(0, 5), 0);
         Check.due("not at sea", x.set(0, 4), 0);
         Check.due("its own purse", x.set(0, 3), 3);
+        Check.due("no runs left over", x.set(0, 6), 0);
+        Check.due("no units left over", x.set(0, 2), 0);
+        x.sail(0);
         Check.due("add to it", x.add(0, 5), 0);
-        Check.due("one run", x.set(0, 6), 1);
+        Check.due("a row", x.add(0, 301), 0);
+        Check.due("two runs", x.set(0, 6), 2);
     }
 
     private static void promise03Pay() {
-        newSetIsEmptyAfterUndo();
         BoatSets x = Check.withSet(9990);
         Check.due("unknown set", x.pay(1, 1), -1);
         Check.due("unknown set -1", x.pay(-1, 1), -1);
@@ -168,6 +183,35 @@ public final class SetsTest {
         Check.due("docks once more", x.dock(0), 6);
         Check.due("bay 3 becomes runs", x.boat(0, 3, 0), 2);
         Check.due("nothing is left", x.set(0, 3), 0);
+    }
+
+    private static void promise05DockBySavingsAlone() {
+        // Bay 0: bits of 15 singles save 2 for 30; bay 1: a row of 10 saves 17 for 3.
+        BoatSets x = Check.withSet(32);
+        Check.addSingles(x, 0, 0, 17);
+        x.sail(0);
+        x.remove(0, 0);
+        x.remove(0, 2);
+        x.addRange(0, 256, 265);
+        x.pay(0, 30);
+        Check.due("17 saved come ahead of 2", x.dock(0), 3);
+        Check.due("bits still", x.boat(0, 0, 0), 1);
+        x.pay(0, 3);
+        Check.due("the rest", x.dock(0), 30);
+        Check.due("a row", x.boat(0, 0, 0), 0);
+    }
+
+    private static void promise05DockEightBoats() {
+        BoatSets x = Check.withSet(0);
+        x.sail(0);
+        for (int bay = 0; bay < 8; bay++) {
+            x.addRange(0, 256 * bay, 256 * bay + 1 + bay);
+        }
+        x.pay(0, 24);
+        Check.due("all eight", x.dock(0), 24);
+        for (int bay = 0; bay < 8; bay++) {
+            Check.due("runs in bay " + bay, x.boat(0, bay, 0), 2);
+        }
     }
 
     private static void promise05DockTies() {

@@ -54,6 +54,13 @@ public final class ToldTest {
         for (int what = 0; what < due.length; what++) {
             Check.due("set " + what, x.set(0, what), due[what]);
         }
+        x.dock(0);
+        x.addRange(0, 600, 632);
+        for (int number = 601; number < 632; number += 2) {
+            x.remove(0, number);
+        }
+        Check.due("bits are a boat too", x.boat(0, 2, 0), 1);
+        Check.due("three boats", x.set(0, 1), 3);
         x.newSet(5);
         int[] empty = {0, 0, 0, 5, 0, 0, 0, -5, -5, 0};
         for (int what = 0; what < empty.length; what++) {
@@ -244,6 +251,9 @@ public final class ToldTest {
         x.sail(0);
         Check.due("at sea too", x.sizeOf(0, 0, 1), 50);
         Check.due("changes nothing", x.set(0, 0), 30);
+        x.add(0, 0);
+        x.add(1, 2047);
+        Check.due("the least and the greatest number", x.sizeOf(3, 0, 1), 32);
     }
 
     private static void promise26OfAll() {
@@ -259,6 +269,10 @@ public final class ToldTest {
         for (int place = 0; place < due.length; place++) {
             Check.due("ofAll " + place, x.ofAll(place), due[place]);
         }
+        x.add(1, 0);
+        x.add(1, 1984);
+        Check.due("ofAll 0", x.ofAll(0), 0);
+        Check.due("ofAll 1984", x.ofAll(4), 1984);
         Check.due("-1", x.ofAll(-1), -2);
         Check.due("least int", x.ofAll(Integer.MIN_VALUE), -2);
         Check.due("largest int", x.ofAll(Integer.MAX_VALUE), -5);
@@ -321,6 +335,8 @@ public final class ToldTest {
         for (int what = 0; what < due.length; what++) {
             Check.due("count " + what, x.count(what), due[what]);
         }
+        x.sail(0);
+        Check.due("all at sea", x.count(1), 3);
         Check.due("what -1", x.count(-1), -2);
         Check.due("what 11", x.count(11), -2);
         Check.due("largest int", x.count(Integer.MAX_VALUE), -2);
