@@ -118,7 +118,9 @@ public final class ModelTest {
         int kind = below(run % 2 == 0 ? 30 : 12);
         if (kind == 0) {
             Check.due(run + " clearText", x.clearText(), m.clearText());
-        } else if (kind < 4) {
+        } else if (kind < 3) {
+            wholeText(run);
+        } else if (kind < 5) {
             int set = aSet(run);
             Check.due(run + " readRanges", x.readRanges(set), m.readRanges(set));
         } else if (kind < 8) {
@@ -130,6 +132,21 @@ public final class ModelTest {
         } else {
             typeAll(run, "" + (char) below(200));
         }
+    }
+
+    /** A text that is mostly right, and is read at once. */
+    private static void wholeText(int run) {
+        Check.due(run + " clearText", x.clearText(), m.clearText());
+        int ranges = 1 + below(5);
+        for (int range = 0; range < ranges; range++) {
+            int from = Math.max(0, Math.min(aNumber(run), 2049));
+            typeAll(run, (range == 0 ? "" : ",") + from);
+            if (below(2) == 0) {
+                typeAll(run, "-" + (from + below(12) - (below(30) == 0 ? 5 : 0)));
+            }
+        }
+        int set = aSet(run);
+        Check.due(run + " readRanges", x.readRanges(set), m.readRanges(set));
     }
 
     private static void typeAll(int run, String signs) {
