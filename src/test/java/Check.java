@@ -2,15 +2,33 @@
 final class Check {
     private static int looked = 0;
     private static int wrong = 0;
+    private static int sentences = 0;
+    private static int lookedBefore = 0;
+    private static String sentence = "";
 
     private Check() {
+    }
+
+    /** Says which sentence of the document the looks that follow stand for. */
+    static void sentence(String words) {
+        endSentence();
+        sentence = words;
+        sentences++;
+        lookedBefore = looked;
+    }
+
+    private static void endSentence() {
+        if (sentences > 0 && looked == lookedBefore) {
+            that("there is a look at it", false);
+        }
     }
 
     static void due(String call, long got, long want) {
         looked++;
         if (got != want) {
             wrong++;
-            System.out.println(call + " answered " + got + ", due is " + want);
+            String place = sentence.isEmpty() ? "" : "\"" + sentence + "\" ";
+            System.out.println(place + call + " answered " + got + ", due is " + want);
         }
     }
 
@@ -19,7 +37,9 @@ final class Check {
     }
 
     static void finish() {
-        System.out.println(looked + " answers looked at, " + wrong + " not as due");
+        endSentence();
+        String of = sentences == 0 ? "" : " for " + sentences + " sentences";
+        System.out.println(looked + " answers looked at" + of + ", " + wrong + " not as due");
         if (wrong != 0 || looked == 0) {
             System.exit(1);
         }
