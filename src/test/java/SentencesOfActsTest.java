@@ -40,6 +40,7 @@ public final class SentencesOfActsTest {
         combineHow();
         combineReturns();
         combineUnknown();
+        combineInTheHarbour();
         combineAtSea();
         Check.finish();
     }
@@ -76,8 +77,11 @@ public final class SentencesOfActsTest {
             Check.due("bay " + bay, x.boat(0, bay, 1), -5);
         }
         Check.due("no 0", x.has(0, 0), 0);
-        Check.due("one run as one comes", x.add(0, 101), 0);
-        Check.due("beside 100 that was", x.boat(0, 0, 2), 1);
+        Check.due("a new boat where runs were", x.add(0, 101), 0);
+        Check.due("one run, though 100 was there", x.boat(0, 0, 2), 1);
+        Check.due("for nothing", x.set(0, 3), 5);
+        x.sail(0);
+        Check.due("a new boat at sea where runs were", x.add(0, 300), 0);
     }
 
     private static void newSetCoins() {
@@ -674,6 +678,16 @@ public final class SentencesOfActsTest {
         }
         Check.due("as it was", x.set(2, 7), 1000);
         Check.due("set 2 is known", x.combine(0, 2, 2, 2), 1);
+    }
+
+    private static void combineInTheHarbour() {
+        Check.sentence("into: the set, which is in the harbour");
+        BoatSets x = three();
+        x.sail(0);
+        x.sail(1);
+        Check.due("into a set in the harbour, of two at sea", x.combine(0, 2, 0, 1), 40);
+        Check.due("it stays in the harbour", x.set(2, 4), 0);
+        Check.due("they stay at sea", x.count(1), 2);
     }
 
     private static void combineAtSea() {

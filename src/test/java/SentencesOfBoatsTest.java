@@ -44,11 +44,16 @@ public final class SentencesOfBoatsTest {
         BoatSets x = Check.withSet(0);
         Check.due("-1", x.add(0, -1), -2);
         Check.due("2048", x.add(0, 2048), -2);
+        Check.due("2047 to 2048", x.addRange(0, 2047, 2048), -2);
+        Check.due("-1 to 0", x.addRange(0, -1, 0), -2);
         Check.due("none yet", x.set(0, 0), 0);
         Check.due("0", x.add(0, 0), 0);
         Check.due("2047", x.add(0, 2047), 0);
         Check.due("the least", x.set(0, 7), 0);
         Check.due("the greatest", x.set(0, 8), 2047);
+        Check.due("it can have 2047", x.has(0, 2047), 1);
+        Check.due("it cannot have 2048", x.has(0, 2048), -2);
+        Check.due("nor -1", x.has(0, -1), -2);
         BoatSets all = Check.withSet(9999);
         Check.due("all of them", all.addRange(0, 0, 2047), 2048);
         Check.due("so many", all.set(0, 0), 2048);
@@ -84,6 +89,13 @@ public final class SentencesOfBoatsTest {
         Check.due("each one at first", x.set(1, 4), 0);
         x.dock(0);
         Check.due("in the harbour again", x.set(0, 4), 0);
+        BoatSets y = new BoatSets();
+        y.keep();
+        y.newSet(9);
+        y.sail(0);
+        y.restore();
+        y.newSet(9);
+        Check.due("in place of one that was at sea", y.set(0, 4), 0);
     }
 
     private static void numbersOfABay() {
@@ -136,6 +148,10 @@ public final class SentencesOfBoatsTest {
         x.removeRange(0, 768, 1023);
         Check.due("no number, no boat", x.boat(0, 3, 0), -5);
         Check.due("two are left", x.set(0, 1), 2);
+        for (int bay = 0; bay < 8; bay++) {
+            x.add(0, 256 * bay + 7 * bay);
+        }
+        Check.due("eight at most", x.set(0, 1), 8);
     }
 
     private static void runEndsWhereANumberIsMissing() {

@@ -100,8 +100,13 @@ public final class SentencesOfHarbourTest {
             Check.due("a row", row.add(0, number), 0);
         }
         Check.due("runs would be best", row.boat(0, 0, 4), 2);
+        Check.due("not even for a number that it cannot hold", row.add(0, 24), -3);
         row.remove(0, 23);
         Check.due("a row still", row.boat(0, 0, 0), 0);
+        BoatSets eight = Made.atSea(9999, Made.eightRuns());
+        Check.due("nor for a ninth run", eight.add(0, 100), -3);
+        Check.due("nor for a run that is split", eight.remove(0, 1), -3);
+        Check.due("runs still", eight.boat(0, 0, 0), 2);
         BoatSets runs = Made.atSea(9999, 0, 2);
         runs.remove(0, 1);
         Check.due("runs", runs.boat(0, 0, 0), 2);

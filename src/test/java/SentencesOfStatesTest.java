@@ -24,6 +24,7 @@ public final class SentencesOfStatesTest {
         noneIfNoErrorApplies();
         errorsOfSetsChangeNothing();
         errorsOfNumbersChangeNothing();
+        noneChangesNothing();
         halfWayErrorsChangeNothing();
         errorsOfTextsAndHistoryChangeNothing();
         whatIsToldChangesNothing();
@@ -557,6 +558,25 @@ public final class SentencesOfStatesTest {
         refused("combine at sea", x -> x.combine(0, 1, 0, 0), -4);
     }
 
+    /** A row that would become runs, for which there are coins now. */
+    private static void makePaidRow(BoatSets x) {
+        x.newSet(0);
+        x.addRange(0, 0, 4);
+        x.pay(0, 50);
+        Check.write(x, "1,0-4");
+    }
+
+    private static void noneChangesNothing() {
+        Check.sentence("A call that returns an error or NONE changes nothing.");
+        Consumer<BoatSets> paidRow = SentencesOfStatesTest::makePaidRow;
+        Twins.changesNothing("add of what is there", paidRow, x -> x.add(0, 4), -5);
+        Twins.changesNothing("remove of what is not there", paidRow, x -> x.remove(0, 5), -5);
+        Twins.changesNothing("addRange of what is there", paidRow, x -> x.addRange(0, 0, 4), -5);
+        Twins.changesNothing("removeRange of what is not there", paidRow, x -> x.removeRange(0, 5, 2047), -5);
+        Twins.changesNothing("readRanges of what is there", paidRow, x -> x.readRanges(0), -5);
+        Twins.changesNothing("sail at sea", paidRow.andThen(x -> x.sail(0)), x -> x.sail(0), -5);
+    }
+
     /** A row that has room for 24, and coins for one toll of the bay before it. */
     private static void makeHalfRich(BoatSets x) {
         x.newSet(3);
@@ -584,8 +604,7 @@ public final class SentencesOfStatesTest {
         Check.sentence("A call that returns an error or NONE changes nothing.");
         Consumer<BoatSets> full = x -> {
             makeRich(x);
-            Check.write(x, "1000,1001,1002,1003,1004,1005,1006,1007,1008,1009,1010-1011,");
-            x.type('1');
+            Check.write(x, "1000,1001,1002,1003,1004,1005,1006,1007,1008,1009,1010,12,78");
         };
         Twins.changesNothing("type behind 60", full, x -> x.type('2'), -3);
         refused("readRanges into no set", x -> x.readRanges(2), -1);

@@ -2,6 +2,7 @@
 public final class SentencesOfTellingTest {
     public static void main(String[] args) {
         has();
+        toldOfANumber();
         setNumbers();
         setBoats();
         setUnits();
@@ -76,6 +77,26 @@ public final class SentencesOfTellingTest {
         x.remove(0, 64);
         Check.due("gone", x.has(0, 64), 0);
         Check.due("its neighbour is not", x.has(0, 63), 1);
+    }
+
+    private static void toldOfANumber() {
+        Check.sentence("number: 0 to 2047");
+        BoatSets x = Check.withSet(9999);
+        x.addRange(0, 0, 2047);
+        int[] good = {0, 1, 255, 256, 2046, 2047};
+        for (int number : good) {
+            Check.due("has " + number, x.has(0, number), 1);
+            Check.due("rank " + number, x.rank(0, number), number);
+            Check.due("next " + number, x.next(0, number), number);
+            Check.due("nearest " + number, x.nearest(0, number), number);
+        }
+        int[] bad = {-1, -256, 2048, 2049, 4096, 65536, Integer.MAX_VALUE, Integer.MIN_VALUE};
+        for (int number : bad) {
+            Check.due("has " + number, x.has(0, number), -2);
+            Check.due("rank " + number, x.rank(0, number), -2);
+            Check.due("next " + number, x.next(0, number), -2);
+            Check.due("nearest " + number, x.nearest(0, number), -2);
+        }
     }
 
     private static void setNumbers() {

@@ -121,6 +121,8 @@ public final class SentencesOfTextsTest {
         Check.due("index 1", Check.read("1x"), -101);
         Check.due("the first of two", Check.read("1,x,,"), -102);
         Check.due("ahead of a text that ends too early", Check.read("1-2-"), -103);
+        Check.due("a digit may not follow this zero", Check.read("1,05"), -103);
+        Check.due("a fifth digit may not stand here", Check.read("1,10000"), -106);
         Check.due("a comma may not follow this one", Check.read("1-,"), -102);
         Check.due("a minus may not follow this one", Check.read("1,-"), -102);
         Check.due("index 59", Check.read(sixtyCharacters().substring(0, 59) + "x"), -159);

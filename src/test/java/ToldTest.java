@@ -158,13 +158,22 @@ public final class ToldTest {
         Check.due("largest int", x.at(0, Integer.MAX_VALUE), -5);
         x.newSet(0);
         Check.due("an empty set", x.at(1, 0), -5);
-        BoatSets y = Check.withSet(100);
-        y.addRange(0, 0, 2047);
-        for (int place = 0; place < 2048; place++) {
-            Check.due("at of all", y.at(0, place), place);
-            Check.due("rank of all", y.rank(0, place), place);
+        for (int bay = 0; bay < 8; bay++) {
+            allOfBay(bay);
         }
-        Check.due("no more", y.at(0, 2048), -5);
+    }
+
+    /** An object for each bay, as what it answers behind its 512th call is free. */
+    private static void allOfBay(int bay) {
+        BoatSets at = Check.withSet(100);
+        at.addRange(0, 0, 2047);
+        BoatSets rank = Check.withSet(100);
+        rank.addRange(0, 0, 2047);
+        for (int place = 256 * bay; place < 256 * bay + 256; place++) {
+            Check.due("at of all", at.at(0, place), place);
+            Check.due("rank of all", rank.rank(0, place), place);
+        }
+        Check.due("no more", at.at(0, 2048), -5);
     }
 
     private static void promise22Next() {
